@@ -124,6 +124,7 @@ public final class EveningsTest {
         check.due("at one table", x.change(0, 0, 1, 2), false);
         check.due("at none", x.change(0, 0, 0, 5), false);
         check.due("at none", x.change(0, 0, 5, 0), false);
+        check.due("at none", x.change(0, 0, 2, 5), false);
         check.due("one and the same", x.change(0, 0, 0, 0), false);
         check.due("no evening", x.change(0, NONE, 4, 0), false);
         check.due("evening 12", x.change(0, 12, 4, 1), false);
@@ -131,6 +132,11 @@ public final class EveningsTest {
         check.due("guest -1", x.change(0, 0, 0, -1), false);
         check.due("plan 3", x.change(3, 0, 0, 1), false);
         check.due("nothing changed", x.at(0, 0, 0), 17);
+        x.table(1, NONE, 3);
+        x.table(1, NONE, 3);
+        x.table(1, NONE, 12);
+        check.due("tables without evening", x.change(1, NONE, 0, 2), false);
+        check.due("no best change there", x.best(1, NONE, 1, 0), NONE);
     }
 
     private static void bettering() {

@@ -68,6 +68,17 @@ public final class SearchTest {
         sets(x, 0, 15, 7, 11, 13, 14);
         evenings(x, 0, 3, NONE, NONE, NONE, NONE);
         x = new DinnerRounds(4);
+        x.table(0, NONE, 12);
+        check.due("others of the set have met", x.complete(0, 4, 1, 20000), NONE);
+        check.due("no try", x.tries(), 0);
+        x = new DinnerRounds(6);
+        x.table(0, NONE, 12);
+        x.table(0, NONE, 36);
+        x.table(0, NONE, 24);
+        check.due("too few, by one", x.complete(0, 4, 1, 1), -2);
+        check.due("then it can't be", x.complete(0, 4, 1, 20000), NONE);
+        check.due("the sets with 0, 1 and two who haven't met", x.tries(), 3);
+        x = new DinnerRounds(4);
         check.due("tables for more than there are", x.complete(0, 6, 1, 20000), NONE);
         check.due("no try", x.tries(), 0);
         check.due("all at one", x.complete(0, 4, 2, 20000), 2);
