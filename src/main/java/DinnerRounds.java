@@ -133,17 +133,15 @@ public final class DinnerRounds {
             return NONE;
         }
         int each = l * (v - 1) / (k - 1);
-        int tables = v * each / k;
         switch (what) {
-            case 0: return barredBy(v, k, l);
+            case 0: return barredBy(v, k, l, each);
             case 1: return each;
-            case 2: return tables;
+            case 2: return v * each / k;
             default: return NONE;
         }
     }
 
-    private static int barredBy(int v, int k, int l) {
-        int each = l * (v - 1) / (k - 1);
+    private static int barredBy(int v, int k, int l, int each) {
         if (l * (v - 1) % (k - 1) != 0) {
             return 1;
         }
@@ -546,9 +544,10 @@ public final class DinnerRounds {
         private void countPairs(int set, int by) {
             for (int one = 0; one < MOST_GUESTS; one++) {
                 if (has(set, one)) {
-                    for (int other = 0; other < MOST_GUESTS; other++) {
-                        if (other != one && has(set, other)) {
+                    for (int other = one + 1; other < MOST_GUESTS; other++) {
+                        if (has(set, other)) {
                             meets[one * MOST_GUESTS + other] += by;
+                            meets[other * MOST_GUESTS + one] += by;
                         }
                     }
                 }

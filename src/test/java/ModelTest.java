@@ -13,7 +13,7 @@ public final class ModelTest {
 
     public static void main(String[] args) {
         long from = args.length > 0 ? Long.parseLong(args[0]) : 1;
-        int many = args.length > 1 ? Integer.parseInt(args[1]) : 150;
+        int many = args.length > 1 ? Integer.parseInt(args[1]) : 300;
         for (long i = from; i < from + many && check.wrong() < 20; i++) {
             new ModelTest(i).run(i);
         }
