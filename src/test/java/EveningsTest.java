@@ -163,5 +163,16 @@ public final class EveningsTest {
         x.change(0, 1, 0, 2);
         check.due("what it told", x.miss(0, 1), 2);
         check.due("no better one", x.best(0, 1, 1, 0), NONE);
+        x = new DinnerRounds(6);
+        int[] sets = {Check.set(0, 3), Check.set(1, 3), Check.set(2, 4), Check.set(2, 5)};
+        for (int set : sets) {
+            x.table(0, NONE, set);
+        }
+        x.table(0, 0, Check.set(0, 1, 3));
+        x.table(0, 0, Check.set(2, 4, 5));
+        check.due("miss", x.miss(0, 1), 13);
+        check.due("two who are neighbours", x.best(0, 0, 1, 0), 2);
+        check.due("two who are neighbours", x.best(0, 0, 1, 1), 3);
+        check.due("miss behind", x.best(0, 0, 1, 2), 5);
     }
 }

@@ -69,7 +69,7 @@ public final class ModelTest {
         int guest = near(0, n - 1);
         int other = near(0, n - 1);
         String where = "run " + number + " ";
-        switch (below(37)) {
+        switch (below(40)) {
             case 0: {
                 int side = near(0, 3);
                 int age = near(0, 99);
@@ -162,10 +162,11 @@ public final class ModelTest {
                 check.due(where + "change", x.change(plan, evening, guest, other), y.change(plan, evening, guest, other));
                 return 1;
             case 28: {
-                int l = below(3) == 0 ? near(0, 60) : near(0, 4);
-                int what = near(0, 2);
-                check.due(where + "best", x.best(plan, evening, l, what), y.best(plan, evening, l, what));
-                return 1;
+                int l = below(10) == 0 ? near(0, 60) : near(0, 3);
+                for (int what = -1; what < 4; what++) {
+                    check.due(where + "best", x.best(plan, evening, l, what), y.best(plan, evening, l, what));
+                }
+                return 5;
             }
             case 29: {
                 int s = near(0, 5);
@@ -186,7 +187,7 @@ public final class ModelTest {
                 return 1;
             }
             case 32: {
-                if (below(3) > 0) return 0;
+                if (below(8) > 0) return 0;
                 boolean knew = below(2) == 0;
                 check.due(where + "read", x.read(guest, evening, knew), y.read(guest, evening, knew));
                 return 1;
@@ -213,12 +214,45 @@ public final class ModelTest {
                     return 2;
                 }
                 return 0;
+            case 36: case 37: return seatAll(where, x, y, plan, evening, n);
+            case 38: return readOne(where, x, y, plan, n);
             default: {
                 int what = near(0, 75);
                 check.due(where + "about " + what, x.about(what), y.about(what));
                 return 1;
             }
         }
+    }
+
+    /** The guests, in some order, at tables of two to four, so that an evening is nearly full. */
+    private int seatAll(String where, DinnerRounds x, Model y, int plan, int evening, int n) {
+        int calls = 0;
+        int left = (1 << n) - 1;
+        while (Integer.bitCount(left) > 1 && calls < 6) {
+            int size = Math.min(among(2, 4), Integer.bitCount(left));
+            int set = 0;
+            while (Integer.bitCount(set) < size) {
+                set |= 1 << below(n) & left;
+            }
+            left &= ~set;
+            check.due(where + "table", x.table(plan, evening, set), y.table(plan, evening, set));
+            calls++;
+        }
+        return calls;
+    }
+
+    /** What is read fits one beginning, so that others are left over too. */
+    private int readOne(String where, DinnerRounds x, Model y, int plan, int n) {
+        if (x.about(3) > 0) return 0;
+        int first = below(n);
+        int s = below(4);
+        for (int i = 0; i < 2; i++) {
+            int guest = below(n);
+            int evening = below(12);
+            boolean knew = evening >= s && (y.knows(Math.floorMod(plan, 3), first, s, evening) >> guest & 1) == 1;
+            check.due(where + "read", x.read(guest, evening, knew), y.read(guest, evening, knew));
+        }
+        return 2;
     }
 
     private int lookAt(String where, DinnerRounds x, Model y, int plan) {
