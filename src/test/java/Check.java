@@ -1,11 +1,31 @@
 /** Counts what is not as due, prints it, and ends a test. */
 final class Check {
     private final String name;
+    private String sentence = "";
+    private int sentences = 0;
+    private int row = 0;
     private int asked = 0;
     private int wrong = 0;
 
     Check(String name) {
         this.name = name;
+    }
+
+    /** The document's sentence that the rows behind this are a test of. */
+    void says(String words) {
+        sentence = words;
+        sentences++;
+        row = 0;
+    }
+
+    /** One more row of the sentence said last. */
+    void due(long got, long want) {
+        row++;
+        due(sentence + " (row " + row + ")", got, want);
+    }
+
+    void due(boolean got, boolean want) {
+        due(got ? 1 : 0, want ? 1 : 0);
     }
 
     void due(String call, long got, long want) {
@@ -25,7 +45,8 @@ final class Check {
     }
 
     void close() {
-        System.out.println(name + ": " + asked + " asked, " + wrong + " wrong");
+        String said = sentences > 0 ? sentences + " sentences, " : "";
+        System.out.println(name + ": " + said + asked + " asked, " + wrong + " wrong");
         if (wrong > 0 || asked == 0) {
             System.exit(1);
         }
