@@ -102,8 +102,8 @@ public final class ImagesTest {
         x.table(1, NONE, 12);
         x.guest(4, 3, 9);
         x.feed(0, 0, 0, 0, 0);
-        int[][] rows = {{0, 0}, {1, 5}, {2, 0}, {3, 0}, {4, 20}, {5, 0}, {6, NONE}, {9, NONE}, {10, 0}, {11, 4}, {12, 0},
-            {13, NONE}, {19, NONE}, {20, NONE}, {22, NONE}, {23, NONE}, {30, 0}, {31, 2}, {32, 0}, {33, NONE},
+        int[][] rows = {{0, 0}, {1, 5}, {2, 0}, {3, 0}, {4, 20}, {5, 0}, {6, NONE}, {9, NONE}, {10, 0}, {11, 4},
+            {12, 0}, {13, NONE}, {19, NONE}, {20, NONE}, {22, NONE}, {23, NONE}, {30, 0}, {31, 2}, {32, 0}, {33, NONE},
             {39, NONE}, {40, 0}, {44, 3}, {45, NONE}, {51, NONE}, {60, 0}, {64, 9}, {65, NONE}, {-1, NONE},
             {Integer.MIN_VALUE, NONE}, {Integer.MAX_VALUE, NONE}};
         for (int[] r : rows) {

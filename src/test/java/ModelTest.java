@@ -2,8 +2,12 @@
 public final class ModelTest {
     private static final Check check = new Check("ModelTest");
     private static final String[] BITS = {"bar", "cost", "or", "and", "not", "size", "age", "oldest", "youngest",
-        "sides", "quarrels", "again", "<", "<=", ">", ">=", "=", "#", "+", "-", "*", "/", "(", ")", ";", "0", "1", "9999",
-        "10000", "x", "Bar", "$", "\n", " ", "7", "\t", "!", "sizesize"};
+        "sides", "quarrels", "again", "<", "<=", ">", ">=", "=", "#", "+", "-", "*", "/", "(", ")", ";", "0", "1",
+        "9999", "10000", "x", "Bar", "$", "\n", " ", "7", "\t", "!", "sizesize"};
+
+    // An object is used for so many calls; the dearest step looks at sixty tables.
+    private static final int MOST_CALLS = 512;
+    private static final int DEAREST_STEP = 125;
 
     private long seed;
 
@@ -13,7 +17,7 @@ public final class ModelTest {
 
     public static void main(String[] args) {
         long from = args.length > 0 ? Long.parseLong(args[0]) : 1;
-        int many = args.length > 1 ? Integer.parseInt(args[1]) : 300;
+        int many = args.length > 1 ? Integer.parseInt(args[1]) : 400;
         for (long i = from; i < from + many && check.wrong() < 20; i++) {
             new ModelTest(i).run(i);
         }
@@ -47,8 +51,8 @@ public final class ModelTest {
         Model y = new Model(n);
         int guests = x.about(1);
         int flavour = below(4);
-        int calls = 0;
-        while (calls < 480 && check.wrong() < 20) {
+        int calls = 1;
+        while (calls < MOST_CALLS - DEAREST_STEP && check.wrong() < 20) {
             calls += step(number, x, y, guests, flavour);
         }
     }
@@ -159,7 +163,8 @@ public final class ModelTest {
                 return 1;
             }
             case 26: case 27:
-                check.due(where + "change", x.change(plan, evening, guest, other), y.change(plan, evening, guest, other));
+                check.due(where + "change", x.change(plan, evening, guest, other),
+                    y.change(plan, evening, guest, other));
                 return 1;
             case 28: {
                 int l = below(10) == 0 ? near(0, 60) : near(0, 3);
@@ -260,11 +265,12 @@ public final class ModelTest {
         int what = near(0, 1);
         check.due(where + "at", x.at(plan, table, what), y.at(plan, table, what));
         if (below(3) > 0) return 1;
-        for (int i = 0; i < y.about(10 + plan); i++) {
+        int tables = y.about(10 + plan);
+        for (int i = 0; i < tables; i++) {
             check.due(where + "set", x.at(plan, i, 0), y.at(plan, i, 0));
             check.due(where + "evening", x.at(plan, i, 1), y.at(plan, i, 1));
         }
-        return 1;
+        return 1 + 2 * Math.max(0, tables);
     }
 
     private int complete(String where, DinnerRounds x, Model y, int plan, int flavour) {
@@ -275,13 +281,15 @@ public final class ModelTest {
         check.due(where + "complete " + k + " " + l + " " + tries, x.complete(plan, k, l, tries),
             y.complete(plan, k, l, tries));
         check.due(where + "tries", x.tries(), y.tries());
-        if (plan >= 0 && plan <= 2 && x.about(10 + plan) > 25) {
-            for (int i = x.about(10 + plan) - 1; i >= 6; i -= 1 + below(2)) {
-                x.clear(plan, i);
-                y.clear(plan, i);
+        int calls = 2;
+        int tables = y.about(10 + plan);
+        if (plan >= 0 && plan <= 2 && tables > 25) {
+            for (int i = tables - 1; i >= 6; i -= 1 + below(2)) {
+                check.due(where + "clear", x.clear(plan, i), y.clear(plan, i));
+                calls++;
             }
         }
-        return 2;
+        return calls;
     }
 
     private int tell(String where, DinnerRounds x, Model y) {

@@ -183,8 +183,9 @@ public final class PlanEdgesTest {
         }
         check.says("4: GUESTS that there aren't");
         x = new DinnerRounds(6);
-        int[][] rows = {{33, 0}, {65, NONE}, {96, NONE}, {192, NONE}, {3 | 1 << 30, NONE}, {LEAST | 1, NONE}, {LEAST, NONE},
-            {LEAST | 3, NONE}, {-1, NONE}, {MOST, NONE}, {63, 1}, {64, NONE}, {127, NONE}, {-2, NONE}, {48, 2}};
+        int[][] rows = {{33, 0}, {65, NONE}, {96, NONE}, {192, NONE}, {3 | 1 << 30, NONE}, {LEAST | 1, NONE},
+            {LEAST, NONE}, {LEAST | 3, NONE}, {-1, NONE}, {MOST, NONE}, {63, 1}, {64, NONE}, {127, NONE}, {-2, NONE},
+            {48, 2}};
         for (int[] r : rows) {
             check.due(x.table(0, NONE, r[0]), r[1]);
         }
@@ -247,7 +248,8 @@ public final class PlanEdgesTest {
         for (int i = 0; i < 4; i++) {
             x.table(0, i, 3 << i);
         }
-        int[][] refused = {{0, -1}, {0, 4}, {0, LEAST}, {0, MOST}, {-1, 0}, {3, 0}, {1, 0}, {2, 3}, {LEAST, 0}, {MOST, 0}};
+        int[][] refused = {{0, -1}, {0, 4}, {0, LEAST}, {0, MOST}, {-1, 0}, {3, 0}, {1, 0}, {2, 3}, {LEAST, 0},
+            {MOST, 0}};
         for (int[] r : refused) {
             check.due(x.clear(r[0], r[1]), false);
             check.due(x.about(10), 4);
@@ -345,10 +347,10 @@ public final class PlanEdgesTest {
         x.table(0, 0, 33);
         x.table(0, NONE, 33);
         x.table(2, NONE, 63);
-        int[][] rows = {{0, 0, 5, 2}, {0, 5, 0, 2}, {0, 0, 4, 0}, {0, 4, 5, 0}, {2, 0, 5, 1}, {1, 0, 5, 0}, {0, -1, 5, NONE},
-            {0, 0, -1, NONE}, {0, 6, 0, NONE}, {0, 0, 6, NONE}, {0, 0, 0, NONE}, {0, 5, 5, NONE}, {0, 6, 6, NONE},
-            {-1, 0, 5, NONE}, {3, 0, 5, NONE}, {LEAST, 0, 5, NONE}, {MOST, 0, 5, NONE}, {0, LEAST, 5, NONE},
-            {0, 0, MOST, NONE}};
+        int[][] rows = {{0, 0, 5, 2}, {0, 5, 0, 2}, {0, 0, 4, 0}, {0, 4, 5, 0}, {2, 0, 5, 1}, {1, 0, 5, 0},
+            {0, -1, 5, NONE}, {0, 0, -1, NONE}, {0, 6, 0, NONE}, {0, 0, 6, NONE}, {0, 0, 0, NONE}, {0, 5, 5, NONE},
+            {0, 6, 6, NONE}, {-1, 0, 5, NONE}, {3, 0, 5, NONE}, {LEAST, 0, 5, NONE}, {MOST, 0, 5, NONE},
+            {0, LEAST, 5, NONE}, {0, 0, MOST, NONE}};
         for (int[] r : rows) {
             check.due(x.meet(r[0], r[1], r[2]), r[3]);
         }
@@ -383,22 +385,23 @@ public final class PlanEdgesTest {
 
     private static void countLimits() {
         check.says("10: V 3 .. 200; NONE for others");
-        counts(new int[][] {{2, 2, 1, 1, NONE}, {2, 1, 1, 1, NONE}, {3, 2, 1, 1, 2}, {4, 2, 1, 1, 3}, {199, 2, 1, 1, 198},
-            {200, 2, 1, 1, 199}, {201, 2, 1, 1, NONE}, {0, 2, 1, 1, NONE}, {-1, 2, 1, 1, NONE}, {LEAST, 2, 1, 1, NONE},
-            {MOST, 2, 1, 1, NONE}});
+        counts(new int[][] {{2, 2, 1, 1, NONE}, {2, 1, 1, 1, NONE}, {3, 2, 1, 1, 2}, {4, 2, 1, 1, 3},
+            {199, 2, 1, 1, 198}, {200, 2, 1, 1, 199}, {201, 2, 1, 1, NONE}, {0, 2, 1, 1, NONE}, {-1, 2, 1, 1, NONE},
+            {LEAST, 2, 1, 1, NONE}, {MOST, 2, 1, 1, NONE}});
         check.says("10: K 2 .. V - 1; NONE for others");
         counts(new int[][] {{9, 1, 1, 1, NONE}, {9, 2, 1, 1, 8}, {9, 3, 1, 1, 4}, {9, 7, 1, 1, 1}, {9, 8, 1, 1, 1},
             {9, 9, 1, 1, NONE}, {9, 10, 1, 1, NONE}, {9, 0, 1, 1, NONE}, {3, 2, 1, 1, 2}, {3, 3, 1, 1, NONE},
             {200, 199, 1, 1, 1}, {200, 200, 1, 1, NONE}, {9, LEAST, 1, 1, NONE}, {9, MOST, 1, 1, NONE},
             {LEAST, LEAST, 1, 1, NONE}});
         check.says("10: L 1 .. 50; NONE for others");
-        counts(new int[][] {{9, 3, 0, 1, NONE}, {9, 3, 1, 1, 4}, {9, 3, 2, 1, 8}, {9, 3, 49, 1, 196}, {9, 3, 50, 1, 200},
-            {9, 3, 51, 1, NONE}, {9, 3, -1, 1, NONE}, {9, 3, LEAST, 1, NONE}, {9, 3, MOST, 1, NONE}});
+        counts(new int[][] {{9, 3, 0, 1, NONE}, {9, 3, 1, 1, 4}, {9, 3, 2, 1, 8}, {9, 3, 49, 1, 196},
+            {9, 3, 50, 1, 200}, {9, 3, 51, 1, NONE}, {9, 3, -1, 1, NONE}, {9, 3, LEAST, 1, NONE},
+            {9, 3, MOST, 1, NONE}});
         check.says("10: 0 what bars it, 1 R (cut), 2 B by that R (cut); NONE for others");
         counts(new int[][] {{9, 3, 1, -1, NONE}, {9, 3, 1, 0, 0}, {9, 3, 1, 1, 4}, {9, 3, 1, 2, 12}, {9, 3, 1, 3, NONE},
             {9, 3, 1, LEAST, NONE}, {9, 3, 1, MOST, NONE}, {8, 3, 1, 1, 3}, {8, 3, 1, 2, 8}, {8, 3, 3, 1, 10},
-            {8, 3, 3, 2, 26}, {200, 2, 50, 1, 9950}, {200, 2, 50, 2, 995000}, {200, 199, 50, 1, 50}, {200, 199, 50, 2, 50},
-            {200, 3, 50, 1, 4975}, {200, 3, 50, 2, 331666}});
+            {8, 3, 3, 2, 26}, {200, 2, 50, 1, 9950}, {200, 2, 50, 2, 995000}, {200, 199, 50, 1, 50},
+            {200, 199, 50, 2, 50}, {200, 3, 50, 1, 4975}, {200, 3, 50, 2, 331666}});
     }
 
     private static void countBars() {

@@ -36,7 +36,8 @@ public final class RefusedTest {
         }
 
         /** A search tells its TRIES behind it, whatever it answers: those aside. */
-        void leavesButTries(String call, ToLongFunction<DinnerRounds> ahead, ToLongFunction<DinnerRounds> made, long due) {
+        void leavesButTries(String call, ToLongFunction<DinnerRounds> ahead, ToLongFunction<DinnerRounds> made,
+            long due) {
             DinnerRounds x = make.get();
             DinnerRounds y = make.get();
             ahead.applyAsLong(x);
@@ -51,15 +52,16 @@ public final class RefusedTest {
     }
 
     /** A call, arguments that are right, and the least and the greatest that each of them may be. */
-    private record Call(String name, long refused, int[] right, int[][] limits, Function<int[], ToLongFunction<DinnerRounds>> of) {
+    private record Call(String name, long refused, int[] right, int[][] limits,
+        Function<int[], ToLongFunction<DinnerRounds>> of) {
         String with(int[] a) {
             return name + java.util.Arrays.toString(a);
         }
     }
 
     public static void main(String[] args) {
-        List<Scene> scenes = List.of(new Scene("new", 0, () -> new DinnerRounds(6)), new Scene("busy", 37, RefusedTest::busy),
-            new Scene("full", 96, RefusedTest::full));
+        List<Scene> scenes = List.of(new Scene("new", 0, () -> new DinnerRounds(6)),
+            new Scene("busy", 37, RefusedTest::busy), new Scene("full", 96, RefusedTest::full));
         for (Scene scene : scenes) {
             check.says("a refused call leaves all as it was: " + scene.name);
             othersAreRefused(scene);
@@ -159,7 +161,8 @@ public final class RefusedTest {
         List<Call> c = new ArrayList<>();
         c.add(new Call("guest", 0, new int[] {1, 2, 33}, new int[][] {guest, {0, 3}, {0, 99}},
             a -> x -> is(x.guest(a[0], a[1], a[2]))));
-        c.add(new Call("quarrel", 0, new int[] {2, 3}, new int[][] {guest, guest}, a -> x -> is(x.quarrel(a[0], a[1], true))));
+        c.add(new Call("quarrel", 0, new int[] {2, 3}, new int[][] {guest, guest},
+            a -> x -> is(x.quarrel(a[0], a[1], true))));
         c.add(new Call("unquarrel", 0, new int[] {0, 1}, new int[][] {guest, guest},
             a -> x -> is(x.quarrel(a[0], a[1], false))));
         c.add(new Call("table", NONE, new int[] {2, 7, 3}, new int[][] {plan, {-1, 11}, {3, 63}},
@@ -181,7 +184,8 @@ public final class RefusedTest {
         c.add(new Call("complete", NONE, new int[] {1, 3, 2, 500}, new int[][] {plan, {2, 6}, {1, 9}, tries},
             a -> x -> x.complete(a[0], a[1], a[2], a[3])));
         c.add(new Call("part", NONE, new int[] {2, 500}, new int[][] {plan, tries}, a -> x -> x.part(a[0], a[1])));
-        c.add(new Call("renamed", NONE, new int[] {0, 0}, new int[][] {plan, guestOrNone}, a -> x -> x.renamed(a[0], a[1])));
+        c.add(new Call("renamed", NONE, new int[] {0, 0}, new int[][] {plan, guestOrNone},
+            a -> x -> x.renamed(a[0], a[1])));
         c.add(new Call("like", NONE, new int[] {0, 1}, new int[][] {plan, plan}, a -> x -> x.like(a[0], a[1])));
         c.add(new Call("cheapest", NO_COST, new int[] {2, 3, 0}, new int[][] {plan, {2, 6}, guestOrNone},
             a -> x -> x.cheapest(a[0], a[1], a[2])));
@@ -193,14 +197,17 @@ public final class RefusedTest {
             a -> x -> x.best(a[0], a[1], a[2], a[3])));
         c.add(new Call("knows", NONE, new int[] {0, 0, 0, 11}, new int[][] {plan, guest, evening, evening},
             a -> x -> x.knows(a[0], a[1], a[2], a[3])));
-        c.add(new Call("all", NONE, new int[] {1, 0, 0}, new int[][] {plan, guest, evening}, a -> x -> x.all(a[0], a[1], a[2])));
+        c.add(new Call("all", NONE, new int[] {1, 0, 0}, new int[][] {plan, guest, evening},
+            a -> x -> x.all(a[0], a[1], a[2])));
         c.add(new Call("ill", NONE, new int[] {0, 0, 0, 3, 11}, new int[][] {plan, guest, evening, {1, 9}, evening},
             a -> x -> x.ill(a[0], a[1], a[2], a[3], a[4])));
         c.add(new Call("days", NONE, new int[] {1}, new int[][] {{1, 99}}, a -> x -> x.days(a[0])));
-        c.add(new Call("read", NONE, new int[] {0, 0}, new int[][] {guest, evening}, a -> x -> x.read(a[0], a[1], true)));
+        c.add(new Call("read", NONE, new int[] {0, 0}, new int[][] {guest, evening},
+            a -> x -> x.read(a[0], a[1], true)));
         c.add(new Call("begun", NONE, new int[] {0, 0, 0}, new int[][] {plan, {0, 999}, {-1, 71}},
             a -> x -> x.begun(a[0], a[1], a[2])));
-        c.add(new Call("question", NONE, new int[] {0, 0}, new int[][] {plan, {0, 2}}, a -> x -> x.question(a[0], a[1])));
+        c.add(new Call("question", NONE, new int[] {0, 0}, new int[][] {plan, {0, 2}},
+            a -> x -> x.question(a[0], a[1])));
         c.add(new Call("about", NONE, new int[] {0}, new int[][] {{0, 65}}, a -> x -> x.about(a[0])));
         return c;
     }
@@ -241,8 +248,8 @@ public final class RefusedTest {
 
     /** A call that only tells, with right arguments, leaves all as it was, whatever it answers. */
     private static void tellingOnly(Scene scene) {
-        List<String> tell = List.of("at", "meet", "miss", "counts", "fault", "judged", "renamed", "like", "cheapest", "best",
-            "knows", "all", "ill", "begun", "question", "about");
+        List<String> tell = List.of("at", "meet", "miss", "counts", "fault", "judged", "renamed", "like", "cheapest",
+            "best", "knows", "all", "ill", "begun", "question", "about");
         for (Call call : calls()) {
             if (tell.contains(call.name())) {
                 ToLongFunction<DinnerRounds> made = call.of().apply(call.right());

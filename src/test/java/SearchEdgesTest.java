@@ -11,6 +11,8 @@ public final class SearchEdgesTest {
         completeLimits();
         completeTries();
         lackingPairs();
+        setsOfAPair();
+        fewAreLeft();
         fullPlans();
         barredSets();
         partLimits();
@@ -41,8 +43,8 @@ public final class SearchEdgesTest {
 
     private static void completeLimits() {
         check.says("17: K (2 .. 6); NONE for others");
-        int[][] sizes = {{1, NONE}, {2, 15}, {3, 10}, {5, NONE}, {6, 2}, {7, NONE}, {0, NONE}, {-1, NONE}, {LEAST, NONE},
-            {MOST, NONE}};
+        int[][] sizes = {{1, NONE}, {2, 15}, {3, 10}, {5, NONE}, {6, 2}, {7, NONE}, {0, NONE}, {-1, NONE},
+            {LEAST, NONE}, {MOST, NONE}};
         for (int[] r : sizes) {
             // Each pair twice at tables of three or six; once at tables of two.
             DinnerRounds x = new DinnerRounds(6);
@@ -50,7 +52,8 @@ public final class SearchEdgesTest {
             check.due(x.about(10), Math.max(0, r[1]));
         }
         check.says("17: L (1 .. 9); NONE for others");
-        int[][] times = {{0, NONE}, {1, 1}, {2, 2}, {8, 8}, {9, 9}, {10, NONE}, {-1, NONE}, {LEAST, NONE}, {MOST, NONE}};
+        int[][] times = {{0, NONE}, {1, 1}, {2, 2}, {8, 8}, {9, 9}, {10, NONE}, {-1, NONE}, {LEAST, NONE},
+            {MOST, NONE}};
         for (int[] r : times) {
             DinnerRounds x = new DinnerRounds(6);
             check.due(x.complete(0, 6, r[0], 20000), r[1]);
@@ -151,6 +154,75 @@ public final class SearchEdgesTest {
         }
     }
 
+    private static void fewAreLeft() {
+        check.says("Terms: a SET of K with both: as many as are left, one fewer, one more");
+        for (int k = 2; k <= 6; k++) {
+            // 0 has met all the others once; of 1 .. 4 no pair has met.
+            DinnerRounds x = new DinnerRounds(5);
+            for (int guest = 1; guest < 5; guest++) {
+                x.table(0, NONE, 1 | 1 << guest);
+            }
+            int[] came = {6, NONE, 1, NONE, NONE};
+            int[] tried = {6, 2, 1, 0, 0};
+            check.due(x.complete(0, k, 1, 20000), came[k - 2]);
+            check.due(x.tries(), tried[k - 2]);
+            check.due(x.at(0, 4, 0), k == 2 ? 6 : k == 4 ? 30 : NONE);
+        }
+        check.says("Terms: no pair lacks, of twelve GUESTS");
+        DinnerRounds x = new DinnerRounds(12);
+        for (int set : new int[] {0x03f, 0xfc0, 0x1c7, 0xe07, 0x1f8, 0xe38}) {
+            x.table(0, NONE, set);
+        }
+        check.due(x.complete(0, 2, 1, 1), 0);
+        check.due(x.tries(), 0);
+        check.due(x.clear(0, 5), true);
+        check.due(x.complete(0, 2, 1, 8), TOO_FEW);
+        check.due(x.complete(0, 2, 1, 9), 9);
+        check.due(x.at(0, 5, 0), Check.set(3, 9));
+        check.due(x.at(0, 13, 0), Check.set(5, 11));
+    }
+
+    private static void setsOfAPair() {
+        check.says("Terms: a SET of which no pair MEETs L times or more, nor BARRED, whoever of it the two are");
+        // For 0 and 1 there are 15, 23 and 27; no more than one can be put, so that those that may be are tried.
+        int[][] pairs = {{0, 2, 1}, {0, 3, 1}, {0, 4, 1}, {1, 2, 1}, {1, 3, 1}, {1, 4, 1}, {2, 3, 2}, {2, 4, 2},
+            {3, 4, 2}};
+        for (int[] r : pairs) {
+            DinnerRounds x = new DinnerRounds(5);
+            x.table(0, NONE, Check.set(r[0], r[1]));
+            check.due(x.complete(0, 4, 1, 20000), NONE);
+            check.due(x.tries(), r[2]);
+            Check.rule(x, "bar quarrels>0;");
+            x.by(1, 0);
+            x.quarrel(r[0], r[1], true);
+            check.due(x.complete(1, 4, 1, 20000), NONE);
+            check.due(x.tries(), r[2]);
+        }
+        check.says("Terms: by rising numbers the first (that may be put)");
+        // The ages are such that a table's is the number of its set.
+        int[] barred = {0, 7, 11, 19, 35, 67};
+        int[] firstSets = {7, 11, 19, 35, 67, NONE};
+        DinnerRounds x = new DinnerRounds(7);
+        for (int guest = 0; guest < 7; guest++) {
+            x.guest(guest, 0, 1 << guest);
+        }
+        x.image();
+        StringBuilder text = new StringBuilder("bar age=0");
+        for (int i = 0; i < barred.length; i++) {
+            text.append(" or age=").append(barred[i]);
+            Check.rule(x, text + ";");
+            x.by(0, 0);
+            check.due(x.complete(0, 3, 1, 20000), i < 5 ? 7 : NONE);
+            check.due(x.tries(), i < 5 ? 7 : 0);
+            check.due(x.at(0, 0, 0), firstSets[i]);
+            if (i == 1) {
+                rows(x, 0, new int[][] {{11, NONE}, {21, NONE}, {97, NONE}, {38, NONE}, {82, NONE}, {76, NONE},
+                    {56, NONE}});
+            }
+            x.back();
+        }
+    }
+
     private static void fullPlans() {
         check.says("Terms: or 60 TABLES are there (59, 60 and 61 would be)");
         for (int met = 3; met <= 5; met++) {
@@ -240,6 +312,30 @@ public final class SearchEdgesTest {
                 check.due(x.at(0, i, 1), tries < 6 ? NONE : placed[i]);
             }
         }
+        check.says("18: nothing is done then: TABLES that have an EVENING keep it, those without have none");
+        for (int tries = 1; tries <= 4; tries++) {
+            DinnerRounds x = new DinnerRounds(4);
+            x.table(0, 7, 3);
+            x.table(0, NONE, 3);
+            x.table(0, 0, 12);
+            x.table(0, NONE, 12);
+            x.table(0, NONE, 5);
+            x.table(0, NONE, 10);
+            int[] first = {7, NONE, 0, NONE, NONE, NONE};
+            int[] behind = {7, 1, 0, 1, 2, 2};
+            check.due(x.part(0, tries), tries < 4 ? TOO_FEW : 2);
+            for (int i = 0; i < 6; i++) {
+                check.due(x.at(0, i, 1), tries < 4 ? first[i] : behind[i]);
+            }
+        }
+        check.says("18: a TABLE that went isn't placed");
+        DinnerRounds gone = new DinnerRounds(4);
+        gone.table(0, NONE, 3);
+        gone.table(0, NONE, 12);
+        gone.clear(0, 1);
+        check.due(gone.part(0, 20000), NONE);
+        check.due(gone.tries(), 1);
+        check.due(gone.about(30), 0);
         check.says("18: NONE: it can't be, as the last TRY told is one that goes back");
         for (int tries = 1; tries <= 6; tries++) {
             // 3 has no other beside it; 5 has 10, but then 3 is left over.
@@ -404,6 +500,17 @@ public final class SearchEdgesTest {
         x.table(2, NONE, Check.set(0, 1, 2));
         check.due(x.renamed(2, NONE), 6 * 8);
         check.due(x.renamed(2, 3), 3);
+        check.says("20: of the PLAN that is asked for, whatever was asked ahead of it");
+        DinnerRounds z = new DinnerRounds(4);
+        z.table(0, NONE, Check.set(2, 3));
+        z.table(1, NONE, Check.set(1, 2));
+        check.due(z.renamed(0, 3), 2);
+        check.due(z.renamed(1, 3), 0);
+        check.due(z.renamed(2, 3), 0);
+        check.due(z.renamed(0, 3), 2);
+        check.due(z.like(0, 1), 1);
+        check.due(z.renamed(2, NONE), 24);
+        check.due(z.renamed(1, 2), 1);
         check.says("20: of 60 TABLES");
         DinnerRounds y = new DinnerRounds(6);
         y.complete(0, 2, 4, 20000);
@@ -464,8 +571,8 @@ public final class SearchEdgesTest {
         }
         check.says("22: its COST (guest NONE), the SET of a GUEST; -10000000 for others");
         DinnerRounds x = new DinnerRounds(6);
-        int[][] guests = {{-2, NO_EVENING}, {-1, 0}, {0, 7}, {2, 7}, {3, 56}, {5, 56}, {6, NO_EVENING}, {LEAST, NO_EVENING},
-            {MOST, NO_EVENING}};
+        int[][] guests = {{-2, NO_EVENING}, {-1, 0}, {0, 7}, {2, 7}, {3, 56}, {5, 56}, {6, NO_EVENING},
+            {LEAST, NO_EVENING}, {MOST, NO_EVENING}};
         for (int[] r : guests) {
             check.due(x.cheapest(0, 3, r[0]), r[1]);
         }
@@ -538,7 +645,8 @@ public final class SearchEdgesTest {
 
     private static void sitting() {
         check.says("23: an EVENING (0 .. 11); NONE for others");
-        int[][] evenings = {{-2, NONE}, {-1, NONE}, {0, 2}, {1, 2}, {10, 2}, {11, 2}, {12, NONE}, {LEAST, NONE}, {MOST, NONE}};
+        int[][] evenings = {{-2, NONE}, {-1, NONE}, {0, 2}, {1, 2}, {10, 2}, {11, 2}, {12, NONE}, {LEAST, NONE},
+            {MOST, NONE}};
         DinnerRounds x = new DinnerRounds(4);
         for (int[] r : evenings) {
             check.due(x.sit(0, 2, r[0]), r[1]);
@@ -591,7 +699,8 @@ public final class SearchEdgesTest {
     private static void changing() {
         check.says("24: false for others");
         int[][] others = {{-1, 0, 0, 2}, {3, 0, 0, 2}, {0, -1, 0, 2}, {0, 12, 0, 2}, {0, 0, -1, 2}, {0, 0, 6, 2},
-            {0, 0, 0, -1}, {0, 0, 0, 6}, {0, 0, 0, 0}, {LEAST, 0, 0, 2}, {0, MOST, 0, 2}, {0, 0, LEAST, 2}, {0, 0, 0, MOST}};
+            {0, 0, 0, -1}, {0, 0, 0, 6}, {0, 0, 0, 0}, {LEAST, 0, 0, 2}, {0, MOST, 0, 2}, {0, 0, LEAST, 2},
+            {0, 0, 0, MOST}};
         DinnerRounds x = new DinnerRounds(6);
         x.table(0, 0, Check.set(0, 1));
         x.table(0, 0, Check.set(2, 5));
@@ -603,7 +712,8 @@ public final class SearchEdgesTest {
             check.due(x.change(r[0], r[1], r[2], r[3]), false);
         }
         check.says("24: or if they aren't at two TABLES of that EVENING");
-        int[][] notThere = {{0, 0, 0, 1}, {0, 0, 0, 3}, {0, 0, 3, 0}, {0, 0, 3, 4}, {0, 1, 0, 2}, {0, 11, 0, 2}, {1, 0, 0, 2}};
+        int[][] notThere = {{0, 0, 0, 1}, {0, 0, 0, 3}, {0, 0, 3, 0}, {0, 0, 3, 4}, {0, 1, 0, 2}, {0, 11, 0, 2},
+            {1, 0, 0, 2}};
         for (int[] r : notThere) {
             check.due(x.change(r[0], r[1], r[2], r[3]), false);
         }
@@ -665,6 +775,27 @@ public final class SearchEdgesTest {
         check.due(y.best(0, 4, 1, 2), 11);
         check.due(y.best(0, 4, 1, 0), 0);
         check.due(y.best(0, 4, 1, 1), 2);
+        check.says("25: any two GUESTS may be the best to change: neighbours, the first and the last");
+        int[][] two = {{0, 1}, {2, 3}, {4, 5}, {0, 5}, {1, 4}};
+        for (int[] r : two) {
+            DinnerRounds z = new DinnerRounds(6);
+            int one = 1 << r[0];
+            int other = 1 << r[1];
+            int left = 63 & ~one & ~other;
+            int half = left & -left;
+            half |= left & ~half & -(left & ~half);
+            z.table(0, 0, one | half);
+            z.table(0, 0, other | left & ~half);
+            // Each has met all of that table too often, and none of the other one.
+            for (int guest = 0; guest < 6; guest++) {
+                if ((left >> guest & 1) == 1) {
+                    z.table(0, NONE, 1 << guest | ((half >> guest & 1) == 1 ? one : other));
+                }
+            }
+            check.due(z.best(0, 0, 1, 0), r[0]);
+            check.due(z.best(0, 0, 1, 1), r[1]);
+            check.due(z.best(0, 0, 1, 2), z.miss(0, 1) - 8);
+        }
         check.says("24, 25: behind the BEST CHANGE MISS is as told");
         check.due(y.change(0, 4, 0, 2), true);
         check.due(y.miss(0, 1), 11);

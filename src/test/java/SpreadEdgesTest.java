@@ -18,6 +18,7 @@ public final class SpreadEdgesTest {
         begunDays();
         begunEvenings();
         questionLimits();
+        questionOfMany();
         questionNone();
         images();
         imageOfRules();
@@ -42,8 +43,8 @@ public final class SpreadEdgesTest {
         int[][] rows = {{0, 0, 0, -1, NONE}, {0, 0, 0, 0, 3}, {0, 0, 0, 1, 7}, {0, 0, 0, 10, 63}, {0, 0, 0, 11, 63},
             {0, 0, 0, 12, NONE}, {0, 0, -1, -1, NONE}, {0, 0, -1, 0, NONE}, {0, 0, 1, 0, NONE}, {0, 0, 1, 1, 1},
             {0, 0, 1, 2, 1}, {0, 3, 5, 4, NONE}, {0, 3, 5, 5, 8}, {0, 0, 11, 10, NONE}, {0, 0, 11, 11, 63},
-            {0, 0, 11, 12, NONE}, {0, 0, 12, 12, NONE}, {0, 0, 12, 11, NONE}, {0, 0, LEAST, 0, NONE}, {0, 0, 0, MOST, NONE},
-            {0, 0, LEAST, LEAST, NONE}, {0, 0, MOST, MOST, NONE}};
+            {0, 0, 11, 12, NONE}, {0, 0, 12, 12, NONE}, {0, 0, 12, 11, NONE}, {0, 0, LEAST, 0, NONE},
+            {0, 0, 0, MOST, NONE}, {0, 0, LEAST, LEAST, NONE}, {0, 0, MOST, MOST, NONE}};
         for (int[] r : rows) {
             check.due(x.knows(r[0], r[1], r[2], r[3]), r[4]);
         }
@@ -82,8 +83,9 @@ public final class SpreadEdgesTest {
     private static void allKnow() {
         check.says("27: the first EVENING behind which all know; NONE: not by 11");
         DinnerRounds x = chain();
-        int[][] rows = {{0, 0, 4}, {1, 0, 4}, {2, 0, 11}, {0, 1, 11}, {5, 4, 11}, {0, 11, 11}, {0, 12, NONE}, {0, -1, NONE},
-            {0, LEAST, NONE}, {0, MOST, NONE}, {-1, 0, NONE}, {6, 0, NONE}, {LEAST, 0, NONE}, {MOST, 0, NONE}};
+        int[][] rows = {{0, 0, 4}, {1, 0, 4}, {2, 0, 11}, {0, 1, 11}, {5, 4, 11}, {0, 11, 11}, {0, 12, NONE},
+            {0, -1, NONE}, {0, LEAST, NONE}, {0, MOST, NONE}, {-1, 0, NONE}, {6, 0, NONE}, {LEAST, 0, NONE},
+            {MOST, 0, NONE}};
         for (int[] r : rows) {
             check.due(x.all(0, r[0], r[1]), r[2]);
         }
@@ -103,14 +105,15 @@ public final class SpreadEdgesTest {
     private static void illLimits() {
         check.says("28: of D EVENINGS (1 .. 9); NONE for others");
         DinnerRounds x = chain();
-        int[][] spans = {{-1, NONE}, {0, NONE}, {1, 1}, {2, 1}, {8, 1}, {9, 1}, {10, NONE}, {LEAST, NONE}, {MOST, NONE}};
+        int[][] spans = {{-1, NONE}, {0, NONE}, {1, 1}, {2, 1}, {8, 1}, {9, 1}, {10, NONE}, {LEAST, NONE},
+            {MOST, NONE}};
         for (int[] r : spans) {
             check.due(x.ill(0, 0, 5, r[0], 5), r[1]);
         }
         check.says("28: in an EVENING (not ahead of s); NONE for others");
-        int[][] rows = {{0, -1, NONE}, {0, 0, 1}, {1, 0, NONE}, {1, 1, 1}, {5, 4, NONE}, {5, 5, 1}, {5, 6, 1}, {11, 10, NONE},
-            {11, 11, 1}, {11, 12, NONE}, {12, 12, NONE}, {12, 11, NONE}, {-1, 0, NONE}, {-1, -1, NONE}, {LEAST, 0, NONE},
-            {0, MOST, NONE}, {MOST, MOST, NONE}, {LEAST, LEAST, NONE}};
+        int[][] rows = {{0, -1, NONE}, {0, 0, 1}, {1, 0, NONE}, {1, 1, 1}, {5, 4, NONE}, {5, 5, 1}, {5, 6, 1},
+            {11, 10, NONE}, {11, 11, 1}, {11, 12, NONE}, {12, 12, NONE}, {12, 11, NONE}, {-1, 0, NONE}, {-1, -1, NONE},
+            {LEAST, 0, NONE}, {0, MOST, NONE}, {MOST, MOST, NONE}, {LEAST, LEAST, NONE}};
         for (int[] r : rows) {
             check.due(x.ill(0, 0, r[0], 9, r[1]), r[2]);
         }
@@ -140,6 +143,23 @@ public final class SpreadEdgesTest {
                 int first = evening <= d ? 1 : 0;
                 int second = evening >= 2 && evening <= 1 + d ? 2 : 0;
                 check.due(y.ill(0, 0, 1, d, evening), first | second);
+            }
+        }
+        check.says("Terms: whoever has it, and whoever catches it");
+        for (int one = 0; one < 6; one++) {
+            for (int other = 0; other < 6; other++) {
+                DinnerRounds y = new DinnerRounds(6);
+                if (one != other) {
+                    y.table(0, 5, 1 << one | 1 << other);
+                }
+                int both = 1 << one | 1 << other;
+                check.due(y.knows(0, one, 4, 4), 1 << one);
+                check.due(y.knows(0, one, 4, 5), both);
+                check.due(y.ill(0, one, 4, 3, 5), 1 << one);
+                check.due(y.ill(0, one, 4, 3, 6), both);
+                check.due(y.ill(0, one, 4, 3, 7), both & ~(1 << one));
+                check.due(y.ill(0, one, 4, 3, 8), both & ~(1 << one));
+                check.due(y.ill(0, one, 4, 3, 9), 0);
             }
         }
         check.says("Terms: in the last EVENING of an ill one it is caught, in the next it isn't");
@@ -182,7 +202,8 @@ public final class SpreadEdgesTest {
 
     private static void dayLimits() {
         check.says("29: n DAYS go by (1 .. 99): the clock; NONE for others");
-        int[][] rows = {{-1, NONE}, {0, NONE}, {1, 1}, {2, 2}, {98, 98}, {99, 99}, {100, NONE}, {LEAST, NONE}, {MOST, NONE}};
+        int[][] rows = {{-1, NONE}, {0, NONE}, {1, 1}, {2, 2}, {98, 98}, {99, 99}, {100, NONE}, {LEAST, NONE},
+            {MOST, NONE}};
         for (int[] r : rows) {
             DinnerRounds x = new DinnerRounds(4);
             check.due(x.days(r[0]), r[1]);
@@ -211,8 +232,8 @@ public final class SpreadEdgesTest {
 
     private static void readLimits() {
         check.says("30: a GUEST, an EVENING (0 .. 11); NONE for others");
-        int[][] rows = {{-1, 0, NONE}, {0, 0, 1}, {5, 0, 2}, {6, 0, NONE}, {LEAST, 0, NONE}, {MOST, 0, NONE}, {0, -1, NONE},
-            {0, 11, 3}, {0, 12, NONE}, {0, LEAST, NONE}, {0, MOST, NONE}};
+        int[][] rows = {{-1, 0, NONE}, {0, 0, 1}, {5, 0, 2}, {6, 0, NONE}, {LEAST, 0, NONE}, {MOST, 0, NONE},
+            {0, -1, NONE}, {0, 11, 3}, {0, 12, NONE}, {0, LEAST, NONE}, {0, MOST, NONE}};
         DinnerRounds x = new DinnerRounds(6);
         int reads = 0;
         for (int[] r : rows) {
@@ -334,8 +355,8 @@ public final class SpreadEdgesTest {
     private static void questionLimits() {
         check.says("32: 0 the GUEST, 1 the EVENING, 2 the lesser number; NONE for others");
         DinnerRounds x = new DinnerRounds(4);
-        int[][] rows = {{0, -1, NONE}, {0, 0, 0}, {0, 1, 11}, {0, 2, 12}, {0, 3, NONE}, {0, LEAST, NONE}, {0, MOST, NONE},
-            {-1, 0, NONE}, {2, 1, 11}, {3, 0, NONE}, {LEAST, 0, NONE}, {MOST, 0, NONE}};
+        int[][] rows = {{0, -1, NONE}, {0, 0, 0}, {0, 1, 11}, {0, 2, 12}, {0, 3, NONE}, {0, LEAST, NONE},
+            {0, MOST, NONE}, {-1, 0, NONE}, {2, 1, 11}, {3, 0, NONE}, {LEAST, 0, NONE}, {MOST, 0, NONE}};
         for (int[] r : rows) {
             check.due(x.question(r[0], r[1]), r[2]);
         }
@@ -356,6 +377,45 @@ public final class SpreadEdgesTest {
         check.due(y.question(0, 0), 0);
         check.due(y.question(0, 1), 0);
         check.due(y.question(0, 2), 2);
+    }
+
+    private static void questionOfMany() {
+        check.says("Terms: the lesser of those by which that GUEST knew, and by which not, is greatest");
+        DinnerRounds x = new DinnerRounds(4);
+        for (int evening = 0; evening < 12; evening++) {
+            x.table(0, evening, 15);
+        }
+        // Behind evening e all know by those from 0 .. e, four each.
+        check.due(x.question(0, 0), 0);
+        check.due(x.question(0, 1), 5);
+        check.due(x.question(0, 2), 24);
+        x.read(0, 0, false);
+        // From 1 .. 11: behind 5 there are 20 and 24, behind 6 there are 24 and 20.
+        check.due(x.begun(0, 0, NONE), 44);
+        check.due(x.question(0, 1), 5);
+        check.due(x.question(0, 2), 20);
+        x.read(0, 11, true);
+        x.read(3, 10, false);
+        // From 11 alone: all know behind 11 and none ahead of it.
+        none(x, 4);
+        check.says("32: of twelve GUESTS, the last GUEST and the last EVENING");
+        DinnerRounds y = new DinnerRounds(12);
+        check.due(y.question(0, 0), 0);
+        check.due(y.question(0, 1), 11);
+        check.due(y.question(0, 2), 12);
+        for (int guest = 0; guest < 10; guest++) {
+            y.read(guest, 11, false);
+        }
+        y.read(10, 10, false);
+        y.read(11, 10, false);
+        // With 10 or with 11 ahead of evening 11: the first of the two is asked for.
+        check.due(y.begun(0, 0, NONE), 2);
+        check.due(y.question(0, 0), 10);
+        check.due(y.question(0, 1), 11);
+        check.due(y.question(0, 2), 1);
+        y.table(0, 11, Check.set(0, 10));
+        check.due(y.begun(0, 0, NONE), 1);
+        none(y, 1);
     }
 
     private static void questionNone() {
@@ -433,13 +493,15 @@ public final class SpreadEdgesTest {
             check.due(x.about(0), 102);
             check.due(x.back(), 3);
         }
-        check.due("behind back: " + Look.apart(Look.club(busy()), Look.club(x)), Look.club(busy()).equals(Look.club(x)), true);
+        check.due("behind back: " + Look.apart(Look.club(busy()), Look.club(x)),
+            Look.club(busy()).equals(Look.club(x)), true);
         check.says("34: back without a change between, and twice");
         DinnerRounds y = busy();
         check.due(y.image(), 3);
         check.due(y.back(), 3);
         check.due(y.back(), 3);
-        check.due("behind back: " + Look.apart(Look.club(busy()), Look.club(y)), Look.club(busy()).equals(Look.club(y)), true);
+        check.due("behind back: " + Look.apart(Look.club(busy()), Look.club(y)),
+            Look.club(busy()).equals(Look.club(y)), true);
         check.says("33: a later IMAGE takes the place of the earlier one");
         DinnerRounds z = busy();
         z.image();

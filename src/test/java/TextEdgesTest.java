@@ -10,6 +10,7 @@ public final class TextEdgesTest {
         feeding();
         ending();
         fourRules();
+        nothingLeft();
         faultAsked();
         longTexts();
         everyByte();
@@ -24,6 +25,7 @@ public final class TextEdgesTest {
         quotients();
         bothSides();
         clausesOfARule();
+        wordsOfEachGuest();
         rulesOfPlans();
         judgedOthers();
         check.close();
@@ -180,6 +182,31 @@ public final class TextEdgesTest {
         check.due(x.judged(0, 3, 1), 6);
     }
 
+    private static void nothingLeft() {
+        check.says("13: of a text with a FAULT, and of RULES that are gone, nothing is left in the next one");
+        String[] first = {"bar 1=1;cost 9;$", "bar 1=1;cost 9;bar 1<(2+", "cost 9;bar 1=1 or"};
+        for (String text : first) {
+            DinnerRounds x = new DinnerRounds(4);
+            check.due(Check.rule(x, text), NONE);
+            check.due(Check.rule(x, "bar 1=2;"), 0);
+            x.by(0, 0);
+            check.due(x.judged(0, 3, 0), 0);
+            check.due(x.judged(0, 3, 1), 0);
+        }
+        DinnerRounds x = new DinnerRounds(4);
+        check.due(Check.rule(x, "bar 1=1;cost 9;"), 0);
+        x.back();
+        check.due(Check.rule(x, ""), 0);
+        x.by(0, 0);
+        check.due(x.judged(0, 3, 0), 0);
+        check.due(x.judged(0, 3, 1), 0);
+        x.back();
+        check.due(Check.rule(x, "cost 4;"), 0);
+        x.by(0, 0);
+        check.due(x.judged(0, 3, 0), 0);
+        check.due(x.judged(0, 3, 1), 4);
+    }
+
     private static void faultAsked() {
         check.says("14: NONE for others, and ahead of any");
         DinnerRounds x = new DinnerRounds(4);
@@ -224,6 +251,10 @@ public final class TextEdgesTest {
         text("cost " + "9".repeat(295), 2, 5);
         sound("cost " + "0".repeat(294) + ";");
         text(";".repeat(300), 1, 0);
+        for (String last : new String[] {"<", ">", "<=", ">=", "=", "#"}) {
+            text("bar 1" + " ".repeat(295 - last.length()) + last, 1, 300);
+        }
+        text("bar 1" + " ".repeat(293) + "==", 1, 299);
         check.says("Terms: {CLAUSE}: none is a text too");
         sound("");
         sound(" ");
@@ -281,7 +312,8 @@ public final class TextEdgesTest {
             text("cost " + word.substring(1) + ";", 1, 5);
             text("bar " + word + ";", 1, 4 + word.length());
         }
-        for (String word : new String[] {"BAR", "Bar", "baR", "COST", "bars", "ba", "cos", "costs", "size", "not", "or", "and"}) {
+        for (String word : new String[] {"BAR", "Bar", "baR", "COST", "bars", "ba", "cos", "costs", "size", "not",
+            "or", "and"}) {
             text(word + " 1<2;", 1, 0);
         }
         check.says("Terms: <= >= < > = # + - * / ( ) ; (the longest)");
@@ -336,6 +368,12 @@ public final class TextEdgesTest {
         text("cost 1;cost 2 $;", 4, 7);
         text("cost 1;$ cost 2;", 1, 7);
         text("cost (((((((((1))))))))) 10000;", 3, 13);
+        text("bar (((((((((10000", 3, 12);
+        text("bar " + "not ".repeat(9) + "10000", 3, 36);
+        text("bar 1<" + "(".repeat(9) + "$ 10000", 3, 14);
+        text("bar $ 10000<1;", 1, 4);
+        text("bar 10000<$;", 2, 4);
+        text("bar (1 10000)<2;", 1, 7);
         check.says("Terms: at the TOKEN's first byte (of the end at the length)");
         text("cost   foo;", 1, 7);
         text("bar 1 <= <= 2;", 1, 9);
@@ -353,6 +391,8 @@ public final class TextEdgesTest {
         text("10000", 1, 0);
         text("cost 1 10000;", 1, 7);
         text("cost (1) 10000;", 1, 9);
+        text("bar 1 10000;", 1, 6);
+        text("bar size 10000<1;", 1, 9);
         text("cost 1;10000;", 1, 7);
         text("bar 1<2 10000;", 1, 8);
         check.says("Terms: of one the least: 1 it can't stand there, though it is cost for the second time");
@@ -363,6 +403,7 @@ public final class TextEdgesTest {
         check.says("Terms: of one the least: 1 it can't stand there, though it is the 9th that would open");
         text("cost ((((((((1(", 1, 14);
         text("cost ((((((((not", 1, 13);
+        text("bar ((((((((1))))))))((((((((((1", 1, 21);
         text("bar not not not not not not not not 1<2 not", 1, 40);
         check.says("Terms: of one the least: 4 ahead of 5, 1 ahead of 5");
         text("cost 1;" + "bar 1<2;".repeat(11) + "cost 2;", 4, 95);
@@ -615,6 +656,39 @@ public final class TextEdgesTest {
             y.by(2, 0);
             check.due(y.judged(2, 12, 1), none[i]);
         }
+    }
+
+    private static void wordsOfEachGuest() {
+        check.says("Terms: WORDS, of a SET: any of its GUESTS can be the one who counts, and none beside them");
+        String[] words = {"age", "oldest", "youngest", "sides", "quarrels", "again"};
+        for (int guest = 0; guest < 6; guest++) {
+            for (int i = 0; i < words.length; i++) {
+                DinnerRounds x = new DinnerRounds(12);
+                for (int other = 0; other < 12; other++) {
+                    x.guest(other, other < 6 ? 1 : 2, other < 6 ? 50 : 2 + 97 * (other % 2));
+                }
+                x.guest(guest, 3, i == 2 ? 49 : 51);
+                int next = (guest + 1) % 6;
+                x.quarrel(guest, next, true);
+                x.quarrel(guest, 6, true);
+                x.quarrel(10, 11, true);
+                x.table(0, NONE, Check.set(guest, next));
+                x.table(0, NONE, Check.set(guest, 7));
+                x.table(0, NONE, Check.set(guest, 7));
+                Check.rule(x, "cost " + words[i] + ";");
+                x.by(0, 0);
+                int[] all = {301, 51, 49, 2, 1, 1};
+                int[] without = {250, 50, 50, 1, 0, 0};
+                check.due(x.judged(0, 63, 1), all[i]);
+                check.due(x.judged(0, 63 & ~(1 << guest), 1), without[i]);
+            }
+        }
+        check.says("Terms: all that may wait for its other side, eight open around one another");
+        String sum = "1" + "+2*(1".repeat(8) + ")".repeat(8);
+        cost(sum, 511);
+        barred("bar 1=2 or 1=1 and 511=" + sum + ";", 1);
+        barred("bar 1=2 or 1=1 and 510=" + sum + ";", 0);
+        barred("bar 1=1 and 1=2 or " + sum + "<512;", 1);
     }
 
     private static void rulesOfPlans() {
